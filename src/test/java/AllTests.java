@@ -1,0 +1,17 @@
+/** Runs all tests of the project; ends with exit code 1 if one fails. */
+public final class AllTests {
+    private AllTests() {
+    }
+
+    public static void main(String[] args) throws Exception {
+        FaceTest.all();
+        BanksTest.all();
+        PaymentsTest.all();
+        RunTest.all();
+        LoansTest.all();
+        ModelTest.all();
+        if (!Check.close()) {
+            System.exit(1);
+        }
+    }
+}
