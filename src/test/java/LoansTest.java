@@ -8,6 +8,7 @@ final class LoansTest {
         promise18Lend();
         promise18WrongLend();
         promise18Refused();
+        promise18ClosedBanks();
         promise18FortyLoans();
         promise19Loans();
         promise20MorningRepays();
@@ -16,6 +17,7 @@ final class LoansTest {
         promise20ClosedAlready();
         promise20ClosedLender();
         promise20DropsPayments();
+        promise20DropsTheSixtieth();
         promise20LargeSums();
         promise21Sold();
     }
@@ -110,6 +112,19 @@ final class LoansTest {
         Check.due("the lender at its floor", 0, hub.lend(0, 1, 101, 0, 2));
         Check.state("pledged ones are not there", () -> hub.lend(0, 1, 1, 0, 4));
         Check.state("the lender at its floor lends no more", () -> hub.lend(0, 1, 1, 0, 3));
+    }
+
+    /** The closed bank has money and papers enough: that it is closed is all that is in the way. */
+    private static void promise18ClosedBanks() {
+        Queuefloat hub = withPapers(20);
+        hub.givePapers(2, 5);
+        hub.lend(0, 1, 100, 200, 5);
+        hub.morning();
+        Check.due("the closed bank has money", 100 + 380, hub.account(1));
+        Check.due("the closed bank has papers", 15, hub.papers(1));
+        Check.state("lend by a closed bank with money", () -> hub.lend(1, 2, 10, 0, 5));
+        Check.state("lend to a closed bank with papers", () -> hub.lend(0, 1, 10, 0, 5));
+        Check.due("lend among open banks", 1, hub.lend(0, 2, 10, 0, 5));
     }
 
     private static void promise18FortyLoans() {
@@ -264,6 +279,25 @@ final class LoansTest {
         Check.due("two wait", 1, hub.drop(2));
         Check.due("one goes", 1, hub.run());
         Check.due("nothing came to the closed bank", 100 + 80, hub.account(1));
+    }
+
+    private static void promise20DropsTheSixtieth() {
+        Queuefloat hub = withPapers(20);
+        hub.lend(0, 1, 100, 200, 2);
+        for (int payment = 0; payment < 60; payment++) {
+            hub.pay(1 + payment % 2, 3, 9000, 0);
+        }
+        Check.due("closed with sixty payments", 1, hub.morning());
+        Check.due("the last of another waits", Queuefloat.SHORT, hub.why(59));
+        Check.due("the last of the closed one is dropped", Queuefloat.GONE, hub.why(58));
+        Check.due("thirty wait", 29, hub.drop(59));
+        Queuefloat last = withPapers(20);
+        last.lend(0, 1, 100, 200, 2);
+        for (int payment = 0; payment < 60; payment++) {
+            last.pay(payment < 59 ? 2 : 1, 3, 9000, 0);
+        }
+        last.morning();
+        Check.due("the very last is dropped", Queuefloat.GONE, last.why(59));
     }
 
     private static void promise20LargeSums() {

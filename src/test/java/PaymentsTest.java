@@ -16,6 +16,7 @@ final class PaymentsTest {
         promise16CanAnyBehindTheFirsts();
         promise16CanAnyUnderBounds();
         promise16ElevenWait();
+        promise16SixtyPayments();
     }
 
     private static void promise10Pay() {
@@ -174,6 +175,15 @@ final class PaymentsTest {
         Check.due("canAny of nothing", false, hub.canAny());
         hub.pay(0, 1, 10, 0);
         Check.due("canAny of one that is short", false, hub.canAny());
+        hub.fund(0, 10);
+        Check.due("canAny of one that is free", true, hub.canAny());
+        hub.run();
+        Check.due("canAny where all have gone", false, hub.canAny());
+        hub.pay(1, 0, 10, 0);
+        hub.run();
+        hub.pay(0, 3, 10, 0);
+        hub.run();
+        hub.pay(0, 1, 10, 0);
         hub.pay(1, 2, 10, 0);
         Check.due("canAny of two that are short", false, hub.canAny());
         hub.pay(2, 0, 11, 0);
@@ -181,10 +191,28 @@ final class PaymentsTest {
         hub.setFloor(2, -1);
         Check.due("canAny of a ring", true, hub.canAny());
         Check.due("canAny changes nothing", 0, hub.account(0));
-        Check.due("canAny changes nothing", 0, hub.queued(0, 0));
+        Check.due("canAny changes nothing", 3, hub.queued(0, 0));
         Check.due("canAny changes nothing", 0, hub.paid(0, 1));
-        hub.drop(1);
+        hub.drop(4);
         Check.due("canAny leaves out dropped ones", false, hub.canAny());
+    }
+
+    private static void promise16SixtyPayments() {
+        Queuefloat hub = new Queuefloat();
+        for (int payment = 0; payment < 60; payment++) {
+            hub.pay(0, 1, 2, 0);
+        }
+        for (int payment = 0; payment < 50; payment++) {
+            Check.state("canAny while more than ten wait", () -> hub.canAny() ? 1 : 0);
+            hub.drop(payment);
+        }
+        Check.due("canAny of the last ten", false, hub.canAny());
+        hub.fund(0, 2);
+        Check.due("canAny of one of the last ten", true, hub.canAny());
+        Check.due("run at the last ten", 1, hub.run());
+        Check.due("canAny of the last nine", false, hub.canAny());
+        Check.due("the last one waits", 59, hub.queued(0, 8));
+        Check.due("no one behind it", Queuefloat.NONE, hub.queued(0, 9));
     }
 
     private static void promise16CanAnyBehindTheFirsts() {
