@@ -9,6 +9,10 @@ public final class AllTests {
         PaymentsTest.all();
         RunTest.all();
         LoansTest.all();
+        BankEdges.all();
+        PaymentEdges.all();
+        RunEdges.all();
+        LoanEdges.all();
         ModelTest.all();
         if (!Check.close()) {
             System.exit(1);

@@ -2,11 +2,13 @@ import java.util.Random;
 
 /**
  * Random runs, always the same ones: each call is made of the program and of the model, and must
- * answer or throw alike; behind each call that may change something all that can be asked is.
+ * answer or throw alike; at the end of a run all that can be asked is. No object is used for more
+ * than 512 calls, so that only what is promised is tested.
  */
 final class ModelTest {
-    private static final int RUNS = 600;
-    private static final int CALLS = 512;
+    private static final int RUNS = 6000;
+    private static final int MOST_CALLS = 512;
+    private static final int CALLS_BEFORE_THE_LAST_ASKING = 330;
 
     private final Random random;
     private final Queuefloat hub = new Queuefloat();
@@ -14,6 +16,8 @@ final class ModelTest {
     private final int largest;
     private final int banks;
     private final boolean inRings;
+    private final int questions;
+    private int calls = 0;
     private int faults = 0;
     private String call = "";
 
@@ -22,20 +26,24 @@ final class ModelTest {
         largest = new int[] {12, 300, 100000}[seed % 3];
         banks = 2 + seed / 3 % 4;
         inRings = seed / 12 % 2 == 1;
+        questions = seed / 24 % 4;
     }
 
     static void all() {
         for (int seed = 0; seed < RUNS; seed++) {
             ModelTest run = new ModelTest(seed);
-            for (int i = 0; i < CALLS && run.faults == 0; i++) {
+            while (run.calls < CALLS_BEFORE_THE_LAST_ASKING && run.faults == 0) {
                 run.step();
             }
+            run.askAll();
             Check.due("random run " + seed + ", faults at " + run.call, 0, run.faults);
+            Check.due("random run " + seed + ", not too long", true, run.calls <= MOST_CALLS);
         }
     }
 
     private void same(String what, Check.Call program, Check.Call second) {
         call = what;
+        calls++;
         String got = Check.outcome(program);
         String want = Check.outcome(second);
         if (!got.equals(want)) {
@@ -79,7 +87,9 @@ final class ModelTest {
         } else {
             loanStep(kind % 10);
         }
-        askAll();
+        for (int i = 0; i < questions; i++) {
+            ask();
+        }
     }
 
     /** In every other run most payments are alike and go round, so that sets come about. */
@@ -146,27 +156,48 @@ final class ModelTest {
         }
     }
 
-    /** Stops at the first fault, so that the call named last is the one that shows it. */
+    private void ask() {
+        int bank = bank();
+        int other = bank();
+        switch (random.nextInt(8)) {
+            case 0: askBank(bank); break;
+            case 1: same("paid", () -> hub.paid(bank, other), () -> model.paid(bank, other)); break;
+            case 2: askQueue(bank, random.nextInt(8) - 1); break;
+            case 3: askQueue(bank, value(0, 60)); break;
+            case 4: same("loans", hub::loans, model::loans); break;
+            case 5: same("sold", hub::sold, model::sold); break;
+            default: askWhy(random.nextInt(20) == 0 ? value(0, 59) : random.nextInt(30)); break;
+        }
+    }
+
+    private void askBank(int bank) {
+        same("account " + bank, () -> hub.account(bank), () -> model.account(bank));
+        same("papers " + bank, () -> hub.papers(bank), () -> model.papers(bank));
+        same("isOpen " + bank, () -> hub.isOpen(bank) ? 1 : 0, () -> model.isOpen(bank) ? 1 : 0);
+    }
+
+    private void askQueue(int bank, int place) {
+        same("queued " + bank + " " + place, () -> hub.queued(bank, place), () -> model.queued(bank, place));
+    }
+
+    private void askWhy(int payment) {
+        same("why " + payment, () -> hub.why(payment), () -> model.why(payment));
+    }
+
     private void askAll() {
-        String cause = call;
-        for (int i = -1; i <= 5 && faults == 0; i++) {
-            int bank = i;
-            same(cause + ": account " + bank, () -> hub.account(bank), () -> model.account(bank));
-            same(cause + ": papers " + bank, () -> hub.papers(bank), () -> model.papers(bank));
-            same(cause + ": isOpen " + bank, () -> hub.isOpen(bank) ? 1 : 0, () -> model.isOpen(bank) ? 1 : 0);
-            for (int j = 0; j <= 5; j++) {
-                int other = j;
-                same(cause + ": paid " + bank + " " + other,
-                        () -> hub.paid(bank, other), () -> model.paid(bank, other));
-                same(cause + ": queued " + bank + " " + (other - 1),
-                        () -> hub.queued(bank, other - 1), () -> model.queued(bank, other - 1));
+        for (int bank = -1; bank <= 5; bank++) {
+            int one = bank;
+            askBank(one);
+            for (int i = 0; i <= 5; i++) {
+                int other = i;
+                same("paid " + one + " " + other, () -> hub.paid(one, other), () -> model.paid(one, other));
+                askQueue(one, other - 1);
             }
         }
-        for (int i = -1; i <= 60 && faults == 0; i++) {
-            int payment = i;
-            same(cause + ": why " + payment, () -> hub.why(payment), () -> model.why(payment));
+        for (int payment = -1; payment <= 60; payment++) {
+            askWhy(payment);
         }
-        same(cause + ": loans", hub::loans, model::loans);
-        same(cause + ": sold", hub::sold, model::sold);
+        same("loans", hub::loans, model::loans);
+        same("sold", hub::sold, model::sold);
     }
 }
