@@ -13,6 +13,7 @@ public final class AllTests {
         PaymentEdges.all();
         RunEdges.all();
         LoanEdges.all();
+        ReadmeTest.all();
         ModelTest.all();
         if (!Check.close()) {
             System.exit(1);

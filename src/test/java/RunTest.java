@@ -6,6 +6,8 @@ final class RunTest {
     static void all() {
         oneByOne();
         onePaymentOfEachBankInARound();
+        banksByRisingNumbers();
+        aFirstThatCanGoesAheadOfSmallOnes();
         smallOnesGoPast();
         firstSmallOfTheQueue();
         aSmallFirstMayNotGo();
@@ -16,6 +18,7 @@ final class RunTest {
         aShortBankStaysOut();
         setsHaveAFirstPayment();
         setsUnderBounds();
+        setsWaitForARoundWithoutAny();
         againBehindASet();
         nextPaymentBehindAMorning();
     }
@@ -58,6 +61,58 @@ final class RunTest {
         promised("one of each bank in a round", 3, hub.run());
         accounts("one of each bank in a round", hub, 0, 50, 50, 0, 0);
         promised("the third has to wait", Queuefloat.SHORT, hub.why(2));
+    }
+
+    /**
+     * The bank between the two others gets 15 in the first round, from one ahead of its turn and from
+     * one behind it: if 10 come ahead, its small payment goes by them, else it can pay the 15 later.
+     */
+    private static void banksByRisingNumbers() {
+        for (int between = 1; between < 4; between++) {
+            for (int ahead = 0; ahead < between; ahead++) {
+                for (int behind = between + 1; behind < 5; behind++) {
+                    String banks = "banks " + ahead + ", " + between + ", " + behind;
+                    Queuefloat hub = betweenTwo(ahead, 10, between, behind, 5);
+                    promised("10 come ahead, " + banks, 3, hub.run());
+                    promised("10 come ahead, " + banks, 5, hub.account(between));
+                    promised("10 come ahead, " + banks, Queuefloat.GONE, hub.why(1));
+                    hub = betweenTwo(ahead, 5, between, behind, 10);
+                    promised("5 come ahead, " + banks, 3, hub.run());
+                    promised("5 come ahead, " + banks, 0, hub.account(between));
+                    promised("5 come ahead, " + banks, Queuefloat.SHORT, hub.why(1));
+                }
+            }
+        }
+    }
+
+    private static Queuefloat betweenTwo(int ahead, int early, int between, int behind, int late) {
+        Queuefloat hub = new Queuefloat();
+        hub.fund(ahead, early);
+        hub.fund(behind, late);
+        hub.pay(between, ahead, 15, 1);
+        hub.pay(between, ahead, 10, 0);
+        hub.pay(ahead, between, early, 0);
+        hub.pay(behind, between, late, 0);
+        return hub;
+    }
+
+    /** The money is there for the large first one or for the small one behind it, not for both. */
+    private static void aFirstThatCanGoesAheadOfSmallOnes() {
+        Queuefloat hub = new Queuefloat();
+        hub.fund(0, 500);
+        hub.pay(0, 1, 500, 0);
+        hub.pay(0, 2, 50, 0);
+        promised("the first of one priority", 1, hub.run());
+        accounts("the first of one priority", hub, 0, 500, 0, 0, 0);
+        promised("the small one has to wait", 1, hub.queued(0, 0));
+        hub.fund(0, 500);
+        hub.pay(0, 3, 500, 1);
+        promised("the first by its priority", 1, hub.run());
+        accounts("the first by its priority", hub, 0, 500, 0, 500, 0);
+        promised("the small one still waits", Queuefloat.SHORT, hub.why(1));
+        hub.fund(0, 50);
+        promised("the small one is the first", 1, hub.run());
+        accounts("the small one is the first", hub, 0, 500, 50, 500, 0);
     }
 
     private static void smallOnesGoPast() {
@@ -227,6 +282,25 @@ final class RunTest {
         hub.pay(4, 3, 7, 0);
         promised("what comes back in the set counts", 2, hub.run());
         promised("what comes back in the set counts", 0, hub.paid(3, 4));
+    }
+
+    /**
+     * The 10 of bank 4 come too late for bank 0 in the first round; in the second one its small
+     * payment goes by them, so that the set of 0 and 1 lacks them.
+     */
+    private static void setsWaitForARoundWithoutAny() {
+        Queuefloat hub = new Queuefloat();
+        hub.fund(4, 10);
+        hub.pay(0, 1, 100, 2);
+        hub.pay(0, 2, 10, 0);
+        hub.pay(1, 0, 95, 0);
+        hub.pay(4, 0, 10, 0);
+        promised("no set behind a round with one", 2, hub.run());
+        accounts("no set behind a round with one", hub, 0, 0, 10, 0, 0);
+        promised("the set has to wait", Queuefloat.SHORT, hub.why(0));
+        hub.fund(0, 5);
+        promised("the set goes then", 2, hub.run());
+        accounts("the set goes then", hub, 0, 5, 10, 0, 0);
     }
 
     private static void againBehindASet() {
